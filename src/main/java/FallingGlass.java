@@ -326,10 +326,12 @@ public final class FallingGlass {
         if (!within(n, 0, images.length - 1)) {
             return OUTSIDE;
         }
-        if (images[n] == null) {
-            images[n] = new State();
+        State kept = images[n];
+        if (kept == null) {
+            kept = new State();
+            images[n] = kept;
         }
-        images[n].take(now);
+        kept.take(now);
         return 1;
     }
 
@@ -337,10 +339,11 @@ public final class FallingGlass {
         if (!within(n, 0, images.length - 1)) {
             return OUTSIDE;
         }
-        if (images[n] == null) {
+        State kept = images[n];
+        if (kept == null) {
             return STATE;
         }
-        now.take(images[n]);
+        now.take(kept);
         return 1;
     }
 

@@ -88,6 +88,10 @@ public final class SayingsAndTellersTest {
         DUE.is("told none", g.told(12), 0);
         DUE.is("says nothing", g.odds(4, 0), -6);
         DUE.is("others stay", g.odds(5, 0), 300);
+        Due.saying(g, 2, "p>0:1;*:2;*:3");
+        DUE.is("a shorter text", Due.saying(g, 2, "p>0:1"), 1);
+        DUE.is("told its cases alone", g.told(12), 1);
+        DUE.is("says its own alone", g.odds(4, 0), -6);
         DUE.is("the text is its own", Due.saying(g, 0, "*:5"), 1);
         Due.say(g, "p>9");
         DUE.is("the pad does not change it", g.odds(2, 0), 500);
@@ -105,6 +109,9 @@ public final class SayingsAndTellersTest {
         DUE.is("the saying stays", g.told(11), 1);
         g.say('!');
         DUE.is("a fault", g.saying(1), -5);
+        g.wipe();
+        g.say('*');
+        DUE.is("one sign", g.saying(1), -5);
         g.wipe();
         DUE.is("UNKNOWN with an empty pad", g.saying(4), -1);
         DUE.is("told signs", g.told(1), 0);

@@ -179,6 +179,10 @@ public final class ScoresTest {
         three.day(1, 0, -1, 4, 1, 1);
         DUE.is("of like ones the fewest keys", three.best(0), 16);
         bestKeysByCount(three);
+        for (int i = 0; i < 8; i++) {
+            three.tear();
+        }
+        DUE.is("no days any more", three.best(0), -6);
     }
 
     private static void bestWeight() {
@@ -330,6 +334,16 @@ public final class ScoresTest {
         FallingGlass least = new FallingGlass();
         least.day(0, 0, 20, 0, 0, 1);
         DUE.is("of several the least", least.engraved(0), 0);
+        least.day(0, 0, 39, 0, 0, 1);
+        DUE.is("best by 0 alone", least.engraved(0), 0);
+        DUE.is("right by 0", least.engraved(1), 2);
+        least.tear();
+        DUE.is("a torn day is not right", least.right(0), 1);
+        FallingGlass one = new FallingGlass();
+        one.day(0, 0, 59, 0, 0, 0);
+        one.day(0, 0, 38, 0, 0, 1);
+        DUE.is("best by 1 alone", one.engraved(0), 1);
+        DUE.is("right by 1", one.engraved(1), 2);
         FallingGlass high = new FallingGlass();
         high.day(0, 0, 20, 0, 0, 0);
         DUE.is("height 40", high.engraved(0), 40);
