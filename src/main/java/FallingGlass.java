@@ -331,7 +331,7 @@ public final class FallingGlass {
             kept = new State();
             images[n] = kept;
         }
-        kept.take(now);
+        kept.takeAll(now);
         return 1;
     }
 
@@ -343,7 +343,7 @@ public final class FallingGlass {
         if (kept == null) {
             return STATE;
         }
-        now.take(kept);
+        now.takeAll(kept);
         return 1;
     }
 
@@ -455,7 +455,7 @@ public final class FallingGlass {
             }
         }
 
-        void take(State other) {
+        void takeAll(State other) {
             brass.take(other.brass);
             book.take(other.book);
             chart.take(other.chart);
@@ -490,7 +490,7 @@ public final class FallingGlass {
                     return join(book.likeOdds(day, keys), book.wireOf(day), weight);
                 default:
                     Text text = sayingAt(teller - FIRST_SAYING);
-                    return text == null ? NONE : text.oddsOf(book, day);
+                    return text == null ? NONE : text.oddsTold(book, day);
             }
         }
 
@@ -865,7 +865,7 @@ public final class FallingGlass {
         }
 
         /** What the first case that fits tells of a day; the text is without a fault. */
-        int oddsOf(Book book, int day) {
+        int oddsTold(Book book, int day) {
             boolean fits = true;
             for (int i = 0; i < size; i++) {
                 int sign = at(signs, i);
@@ -970,7 +970,7 @@ public final class FallingGlass {
         int leastKeys(Book book) {
             scores.erase();
             for (int day = 0; day < book.days; day++) {
-                countLike(book, day);
+                countByKeys(book, day);
                 for (int keys = 0; keys < KEY_SETS; keys++) {
                     scores.add(keys, thousandths(at(wet, keys), at(all, keys)), book.rainOf(day));
                 }
@@ -978,7 +978,7 @@ public final class FallingGlass {
             return scores.least(true);
         }
 
-        private void countLike(Book book, int day) {
+        private void countByKeys(Book book, int day) {
             for (int keys = 0; keys < KEY_SETS; keys++) {
                 put(all, keys, 0);
                 put(wet, keys, 0);
