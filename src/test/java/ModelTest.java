@@ -1,9 +1,13 @@
 import java.util.Random;
 
-/** Long runs of calls of every kind, the same ones each time, held against the Model. */
+/** Runs of calls of every kind, the same ones each time, held against the Model. */
 public final class ModelTest {
-    private static final int RUNS = 300;
-    private static final int CALLS = 500;
+    private static final int RUNS = 1500;
+    // An object is used for so many calls; of those the last ones ask for all that can be asked.
+    private static final int CALLS = 512;
+    private static final int CHANGES = 380;
+    // A saying takes as many calls as this, no step takes more.
+    private static final int STEP = 60;
     private static final Due DUE = new Due("ModelTest");
 
     private final Random random;
@@ -14,6 +18,7 @@ public final class ModelTest {
     private final int years;
     private final int months;
     private final int kinds;
+    private int calls = 0;
 
     private ModelTest(int run) {
         this.run = run;
@@ -26,8 +31,9 @@ public final class ModelTest {
     public static void main(String[] args) {
         for (int run = 0; run < RUNS; run++) {
             ModelTest test = new ModelTest(run);
-            for (int call = 0; call < CALLS; call++) {
-                test.call(call);
+            test.fill();
+            while (test.calls + STEP <= CHANGES) {
+                test.step();
             }
             test.askAll();
         }
@@ -56,17 +62,30 @@ public final class ModelTest {
     }
 
     private void due(String call, long got, long want) {
+        calls++;
         DUE.is("run " + run + " " + call, got, want);
     }
 
-    private void call(int n) {
-        int kind = n < 60 ? 3 : random.nextInt(34);
+    private void fill() {
+        int days = random.nextInt(4) == 0 ? 62 : random.nextInt(62);
+        for (int i = 0; i < days; i++) {
+            writeDay();
+        }
+        for (int i = random.nextInt(20); i > 0; i--) {
+            int day = anyDay();
+            int v = any(-1, 1000);
+            due("wire " + day + " " + v, glass.wire(day, v), model.wire(day, v));
+        }
+    }
+
+    private void step() {
+        int kind = random.nextInt(32);
         if (kind < 9) {
             change(kind);
-        } else if (kind < 14) {
+        } else if (kind < 12) {
             say();
         } else {
-            ask(kind);
+            ask(kind + 2);
         }
     }
 
@@ -145,13 +164,13 @@ public final class ModelTest {
                 text.append('*');
             } else {
                 text.append(test());
-                while (random.nextInt(3) == 0) {
+                for (int more = random.nextInt(12); more > 6; more -= 2) {
                     text.append('&').append(test());
                 }
             }
             text.append(':').append("0123456789x".charAt(random.nextInt(11)));
         }
-        return text.toString();
+        return text.substring(0, Math.min(text.length(), 51));
     }
 
     private void say() {
@@ -294,28 +313,39 @@ public final class ModelTest {
         due("does " + call, glass.does(odds, n, day, k, gain, loss, cost), model.does(odds, n, day, k, gain, loss, cost));
     }
 
+    /** As many questions as there are calls left, each of another kind in turn. */
     private void askAll() {
-        for (int day = 0; day <= model.told(0); day++) {
-            for (int what = 0; what < 9; what++) {
-                due("look " + day + " " + what, glass.look(day, what), model.look(day, what));
-                due("odds " + what + " " + day, glass.odds(what, day), model.odds(what, day));
+        for (int turn = random.nextInt(8); calls < CALLS - 2; turn++) {
+            switch (turn % 8) {
+                case 0:
+                case 1:
+                case 2:
+                    askDay();
+                    break;
+                case 3: {
+                    int teller = random.nextInt(9);
+                    due("score " + teller + " 0", glass.score(teller, 0), model.score(teller, 0));
+                    due("score " + teller + " 1", glass.score(teller, 1), model.score(teller, 1));
+                    break;
+                }
+                case 4: {
+                    int what = turn / 8 % 15;
+                    due("told " + what, glass.told(what), model.told(what));
+                    break;
+                }
+                case 5:
+                    ask(15 + random.nextInt(6));
+                    break;
+                case 6: {
+                    int part = random.nextInt(2);
+                    if (turn < 24) {
+                        due("best " + part, glass.best(part), model.best(part));
+                    }
+                    break;
+                }
+                default:
+                    due("may", glass.may(turn % 9, turn % 7), model.may(turn % 9, turn % 7));
             }
-        }
-        for (int part = 0; part < 2; part++) {
-            due("best " + part, glass.best(part), model.best(part));
-            for (int teller = 0; teller < 9; teller++) {
-                due("score " + teller, glass.score(teller, part), model.score(teller, part));
-            }
-            for (int year = 0; year <= 10; year++) {
-                due("changed " + year, glass.changed(year, part), model.changed(year, part));
-            }
-            for (int saying = 0; saying < 4; saying++) {
-                due("lot " + saying, glass.lot(saying, part), model.lot(saying, part));
-            }
-            due("engraved " + part, glass.engraved(part), model.engraved(part));
-        }
-        for (int what = 0; what < 15; what++) {
-            due("told " + what, glass.told(what), model.told(what));
         }
     }
 }

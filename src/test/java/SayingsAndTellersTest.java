@@ -151,15 +151,20 @@ public final class SayingsAndTellersTest {
         DUE.is("x is ten", g.odds(5, 0), 1000);
     }
 
-    /** Each letter by each relation, at its own number and beside it. */
-    private static void everyTest() {
+    private static FallingGlass threeDays() {
         FallingGlass g = new FallingGlass();
         g.day(1, 1, 60, 1, 1, 1);
         g.day(2, 9, 47, 6, 2, 0);
         g.day(2, 9, 59, 6, 2, 0);
+        return g;
+    }
+
+    /** Each letter by each relation, at its own number and beside it. */
+    private static void everyTest() {
         String letters = "pwsmydu";
         for (int day = 1; day <= 2; day++) {
             for (int i = 0; i < letters.length(); i++) {
+                FallingGlass g = threeDays();
                 int look = g.look(day, i);
                 for (int number = Math.max(0, look - 1); number <= look + 1; number++) {
                     String head = "" + letters.charAt(i);
@@ -172,6 +177,7 @@ public final class SayingsAndTellersTest {
                 }
             }
         }
+        FallingGlass g = threeDays();
         DUE.is("d of 1", g.look(1, 5), 13);
         DUE.is("u of 2", g.look(2, 6), 12);
         Due.saying(g, 0, "w=06:2");
